@@ -16,6 +16,8 @@ public final class BalanceTest {
         safe();
         wrong();
         wrongInTheMiddle();
+        wrongBehindATouch();
+        wrongInAHollow();
         CHECKS.end("BalanceTest");
     }
 
@@ -129,6 +131,19 @@ public final class BalanceTest {
         t.wipe(0);
         t.point(0, 1600, 101, 200);
         due("23 weight is told before the arm", t.within(0), 1);
+        // A measure of weight at an arm one above, and one below: the least that an arm can be off.
+        TrimSheet hair = new TrimSheet();
+        hair.empty(1000, 1000);
+        hair.hold(1, 1);
+        hair.slot(0, 999, 1);
+        hair.slot(0, 1001, 1);
+        hair.item(1, 0, 1);
+        hair.point(0, 1001, 1000, 1000);
+        hair.load(0, 0, 0);
+        due("23 a hair in front", hair.within(0), 3);
+        hair.unload(0);
+        hair.load(0, 0, 1);
+        due("23 a hair behind", hair.within(0), 4);
     }
 
     /** The dry arm is 1000 and a third, by one passenger of 50. */
@@ -224,5 +239,47 @@ public final class BalanceTest {
         t.point(1, 12000, 2000, 2000);
         // A weight of 11,999 has its greatest arm at 1999.91, and its own at 1999.9166 ..
         due("25 behind a bent line", t.wrong(2000), 1);
+    }
+
+    /** The arm comes to be just the least one at 440: 23,960,000 - 2960 b = 1960 (12,000 - b). */
+    private static void wrongBehindATouch() {
+        TrimSheet t = new TrimSheet();
+        t.empty(10000, 2000);
+        t.tank(1000, 1000);
+        t.tank(2960, 1000);
+        t.fuel(0, 1000);
+        t.fuel(1, 1000);
+        t.point(1, 1, 1960, 2100);
+        t.point(1, 1000000, 1960, 2100);
+        due("25 just on the line", t.wrong(440), TrimSheet.NONE);
+        due("25 behind a touch", t.wrong(2000), 441);
+    }
+
+    /**
+     * One tank, one line: a thousand times the weight times the arm's room is (weight - 10,500) to the
+     * second, so that the line is touched at 500; with a measure more in front it is that less 1000,
+     * below 0 from 10,531 to 10,469.
+     */
+    private static void wrongInAHollow() {
+        TrimSheet t = new TrimSheet();
+        t.empty(10000, 2011);
+        t.person(50);
+        t.row(2005, 1);
+        t.seat(0, 1);
+        t.tank(2000, 950);
+        t.fuel(0, 950);
+        t.point(1, 10000, 2011, 5000);
+        t.point(1, 11000, 2010, 5000);
+        due("25 a touch in a hollow", t.wrong(950), TrimSheet.NONE);
+        t.hold(1, 1);
+        t.slot(0, 1999, 1);
+        t.item(1, 0, 1);
+        t.load(0, 0, 0);
+        t.fuel(0, 949);
+        due("25 before the hollow", t.wrong(468), TrimSheet.NONE);
+        due("25 in a hollow", t.wrong(949), 469);
+        due("25 full is within", t.within(1), 0);
+        t.fuel(0, 400);
+        due("25 behind the hollow", t.wrong(400), TrimSheet.NONE);
     }
 }
