@@ -463,11 +463,11 @@ public final class TrimSheet {
             itemWeight[itemCount] = weight;
             itemKind[itemCount] = kind;
             itemStop[itemCount] = stop;
-            rankLast(itemCount, weight);
+            rankByWeight(itemCount, weight);
             return itemCount++;
         }
 
-        private void rankLast(int item, int weight) {
+        private void rankByWeight(int item, int weight) {
             int rank = item;
             while (rank > 0 && itemWeight[heaviestFirst[rank - 1]] < weight) {
                 heaviestFirst[rank] = heaviestFirst[rank - 1];
