@@ -49,7 +49,7 @@ public final class ModelTest {
     // ---- an aircraft by chance
 
     private void build() {
-        setEmpty();
+        setEmpty(from(1000, 3000), from(1500, 2500));
         int holds = below(20) == 0 ? 0 : from(1, 4);
         for (int h = 0; h < holds; h++) {
             addHold(Math.min(8, from(0, below(3) == 0 ? 8 : 16 / holds)));
@@ -70,9 +70,9 @@ public final class ModelTest {
         addPoints(1);
     }
 
-    private void setEmpty() {
-        model.emptyWeight = from(1000, 3000);
-        model.emptyArm = from(1500, 2500);
+    private void setEmpty(int weight, int arm) {
+        model.emptyWeight = weight;
+        model.emptyArm = arm;
         due("empty(" + model.emptyWeight + ", " + model.emptyArm + ")",
                 sheet.empty(model.emptyWeight, model.emptyArm), 0);
     }
@@ -296,9 +296,11 @@ public final class ModelTest {
 
     /** Limits drawn along the flight itself, a little wider: so the first wrong moment may be anywhere. */
     private void fly() {
-        setEmpty();
+        // Now and then as heavy as can be, for sums that would not fit into an int.
+        boolean isHeavy = below(50) == 0;
+        setEmpty(isHeavy ? 100000 : from(1000, 3000), isHeavy ? from(4000, 5000) : from(1500, 2500));
         for (int n = from(1, 4); n > 0; n--) {
-            addTank(below(2) == 0 ? 400 : 3000);
+            addTank(isHeavy ? 20000 : below(2) == 0 ? 400 : 3000);
         }
         int all = model.allFuel();
         int weight = model.emptyWeight - below(3) * 10;
@@ -311,7 +313,8 @@ public final class ModelTest {
             int greatest = Math.max(least, Math.min(5000, arm + 1 + from(0, 60)));
             addPoint(1, weight, least, greatest);
             int rest = Math.max(1, model.emptyWeight + all - weight);
-            weight += p + 2 == points && below(4) > 0 ? rest : from(1, 2 * all / points + 2);
+            int step = isHeavy && p + 2 == points ? 1000000 - weight : rest;
+            weight += p + 2 == points && below(4) > 0 ? step : from(1, 2 * all / points + 2);
         }
         for (int n = 0; n < 4; n++) {
             int fuel = below(all + 10);
