@@ -30,64 +30,26 @@ public final class WildTest {
 
     private static void callOne(TrimSheet sheet, Random random, int run) {
         long before = seen(sheet);
-        int which = random.nextInt(31);
+        String name = Calls.NAMES[random.nextInt(Calls.NAMES.length)];
         int[] a = {any(random), any(random), any(random), any(random)};
         // Good numbers are rare among any: without some help nothing would ever be there.
         if (random.nextInt(2) == 0) {
-            helpUp(which, a, random);
+            helpUp(name, a, random);
         }
-        long answer = call(sheet, which, a);
-        boolean isRefused = answer < 0;
+        boolean isRefused = Calls.call(sheet, name, a) < 0;
         if (isRefused) {
-            CHECKS.due("run " + run + " refused call " + which + " (" + a[0] + ", " + a[1] + ", " + a[2] + ", " + a[3]
-                    + ")", seen(sheet), before);
+            CHECKS.due("run " + run + " refused " + Calls.told(name, a), seen(sheet), before);
         }
     }
 
-    private static void helpUp(int which, int[] a, Random random) {
-        switch (which) {
-            case 0: a[0] = 1000 + random.nextInt(5000); a[1] = random.nextInt(5001); break;
-            case 2: a[0] = random.nextInt(4); a[1] = random.nextInt(5001); a[2] = random.nextInt(5001); break;
-            case 4: a[0] = 1 + random.nextInt(500); a[1] = random.nextInt(8); a[2] = 1 + random.nextInt(4); break;
-            case 10: a[0] = random.nextInt(2); a[1] = random.nextInt(20000); a[2] = random.nextInt(2000);
+    private static void helpUp(String name, int[] a, Random random) {
+        switch (name) {
+            case "empty": a[0] = 1000 + random.nextInt(5000); a[1] = random.nextInt(5001); break;
+            case "slot": a[0] = random.nextInt(4); a[1] = random.nextInt(5001); a[2] = random.nextInt(5001); break;
+            case "item": a[0] = 1 + random.nextInt(500); a[1] = random.nextInt(8); a[2] = 1 + random.nextInt(4); break;
+            case "point": a[0] = random.nextInt(2); a[1] = random.nextInt(20000); a[2] = random.nextInt(2000);
                 a[3] = 2000 + random.nextInt(3000); break;
             default: break;
-        }
-    }
-
-    private static long call(TrimSheet t, int which, int[] a) {
-        switch (which) {
-            case 0: return t.empty(a[0], a[1]);
-            case 1: return t.hold(a[0], a[1]);
-            case 2: return t.slot(a[0], a[1], a[2]);
-            case 3: return t.apart(a[0], a[1], a[2]);
-            case 4: return t.item(a[0], a[1], a[2]);
-            case 5: return t.row(a[0], a[1]);
-            case 6: return t.tank(a[0], a[1]);
-            case 7: return t.person(a[0]);
-            case 8: return t.seat(a[0], a[1]);
-            case 9: return t.fuel(a[0], a[1]);
-            case 10: return t.point(a[0], a[1], a[2], a[3]);
-            case 11: return t.wipe(a[0]);
-            case 12: return t.fits(a[0], a[1], a[2]);
-            case 13: return t.load(a[0], a[1], a[2]);
-            case 14: return t.unload(a[0]);
-            case 15: return t.where(a[0]);
-            case 16: return t.in(a[0], a[1]);
-            case 17: return t.about(a[0], a[1]);
-            case 18: return t.weight(a[0]);
-            case 19: return t.moment(a[0]);
-            case 20: return t.burnt(a[0], a[1]);
-            case 21: return t.within(a[0]);
-            case 22: return t.safe(a[0]);
-            case 23: return t.wrong(a[0]);
-            case 24: return t.pushed(a[0]);
-            case 25: return t.arrive(a[0]);
-            case 26: return t.loadAll(a[0]);
-            case 27: return t.better(a[0]);
-            case 28: return t.best(a[0]);
-            case 29: return t.late(a[0], a[1]);
-            default: return t.count(a[0]);
         }
     }
 
