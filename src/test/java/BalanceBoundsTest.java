@@ -1,6 +1,6 @@
 import java.math.BigInteger;
 
-/** Promises 20 to 25 at their bounds: the lightest and the heaviest, the lines' ends, a flight's first and last moment. */
+/** Promises 20 to 25 at their bounds: the lightest and the heaviest, lines' ends, a flight's first and last moment. */
 public final class BalanceBoundsTest {
     private static final Checks CHECKS = new Checks();
     private static final int LEAST = Integer.MIN_VALUE, GREATEST = Integer.MAX_VALUE;
@@ -26,14 +26,16 @@ public final class BalanceBoundsTest {
         flightBurnsAllThatThereIs();
         flightFromTheLastToTheFirstPoint();
         flightWrongAtEachMoment();
+        flightWrongAtOneMoment();
+        flightWrongWhereTanksTurn();
         flightWithoutFuel();
         safeNeedsBoth();
         flightRefusals();
         CHECKS.end("BalanceBoundsTest");
     }
 
-    private static void refused(Story story, String why, long want, String name, int... numbers) {
-        story.refused(CHECKS, why, want, name, numbers);
+    private static void changesNothing(Story story, String why, long want, String name, int... numbers) {
+        story.changesNothing(CHECKS, why, want, name, numbers);
     }
 
     // ---- 20, 21: "WEIGHT of the DRY state (what 0), with all fuel (1), fuel alone (2)", "MOMENT likewise"
@@ -91,13 +93,13 @@ public final class BalanceBoundsTest {
     private static void whatThereIsNot() {
         Story told = new Story().then("tank", 100, 50).then("fuel", 0, 50).then("point", 0, 1000, 0, 0);
         for (int none : new int[] {LEAST, -1, 3, GREATEST}) {
-            refused(told, "20", TrimSheet.NONE, "weight", none);
-            refused(told, "21", TrimSheet.NO, "moment", none);
+            changesNothing(told, "20", TrimSheet.NONE, "weight", none);
+            changesNothing(told, "21", TrimSheet.NO, "moment", none);
         }
         for (int none : new int[] {LEAST, -1, 2, GREATEST}) {
-            refused(told, "22", TrimSheet.NO, "burnt", 0, none);
-            refused(told, "22 both", TrimSheet.NO, "burnt", -1, none);
-            refused(told, "23", TrimSheet.NONE, "within", none);
+            changesNothing(told, "22", TrimSheet.NO, "burnt", 0, none);
+            changesNothing(told, "22 both", TrimSheet.NO, "burnt", -1, none);
+            changesNothing(told, "23", TrimSheet.NONE, "within", none);
         }
     }
 
@@ -154,9 +156,9 @@ public final class BalanceBoundsTest {
         due("22 one less", told.told().burnt(39999, 1), 1001);
         for (int what = 0; what <= 1; what++) {
             for (int b : new int[] {LEAST, -1, 40001, GREATEST}) {
-                refused(told, "22 measures", TrimSheet.NO, "burnt", b, what);
+                changesNothing(told, "22 measures", TrimSheet.NO, "burnt", b, what);
             }
-            refused(new Story(), "22 without fuel", TrimSheet.NO, "burnt", 1, what);
+            changesNothing(new Story(), "22 without fuel", TrimSheet.NO, "burnt", 1, what);
             due("22 without fuel, none", new TrimSheet().burnt(0, what), 1000L * what);
         }
     }
@@ -168,7 +170,8 @@ public final class BalanceBoundsTest {
             TrimSheet t = new TrimSheet();
             t.point(phase, 2000, 0, 5000);
             t.point(phase, 3000, 0, 5000);
-            int[][] weights = {{1000, 1}, {1999, 1}, {2000, 0}, {2001, 0}, {2999, 0}, {3000, 0}, {3001, 2}, {100000, 2}};
+            int[][] weights = {{1000, 1}, {1999, 1}, {2000, 0}, {2001, 0}, {2999, 0}, {3000, 0}, {3001, 2},
+                {100000, 2}};
             for (int[] w : weights) {
                 t.empty(w[0], 2500);
                 due("23 phase " + phase + " weight " + w[0], t.within(phase), w[1]);
@@ -308,10 +311,10 @@ public final class BalanceBoundsTest {
 
     private static void withinWithoutPoints() {
         Story told = new Story().then("point", 1, 1000, 0, 0);
-        refused(told, "23 dry has no points", TrimSheet.STATE, "within", 0);
+        changesNothing(told, "23 dry has no points", TrimSheet.STATE, "within", 0);
         due("23 flying has one", told.told().within(1), 0);
         told.then("wipe", 1).then("point", 0, 1000, 0, 0);
-        refused(told, "23 flying has no points", TrimSheet.STATE, "within", 1);
+        changesNothing(told, "23 flying has no points", TrimSheet.STATE, "within", 1);
         due("23 dry has one", told.told().within(0), 0);
     }
 
@@ -369,6 +372,77 @@ public final class BalanceBoundsTest {
         }
     }
 
+    /**
+     * A limit that bends towards the flight: it is short of it by (weight - c) to the second, less
+     * 'depth', times 1000. So it is touched at c, or crossed there and come back from at once.
+     */
+    private static TrimSheet bending(boolean isAtLeast, int c, int depth) {
+        int tankArm = 5901 - 2 * c;
+        int dryMoment = c * c + 1001 * tankArm - depth;
+        int emptyArm = (dryMoment - 2500) / 1000;
+        int itemArm = dryMoment - 1000 * emptyArm;
+        TrimSheet t = new TrimSheet();
+        // The same thing seen from the tail: all arms from 5000 down, least and greatest changed.
+        t.empty(1000, isAtLeast ? emptyArm : 5000 - emptyArm);
+        t.hold(1, 1);
+        t.slot(0, isAtLeast ? itemArm : 5000 - itemArm, 1);
+        t.item(1, 0, 1);
+        t.load(0, 0, 0);
+        t.tank(isAtLeast ? tankArm : 5000 - tankArm, 500);
+        t.fuel(0, 500);
+        t.point(1, 1001, isAtLeast ? 4900 : 0, isAtLeast ? 5000 : 100);
+        t.point(1, 2001, isAtLeast ? 3900 : 0, isAtLeast ? 5000 : 1100);
+        return t;
+    }
+
+    private static void flightWrongAtOneMoment() {
+        for (int c = 1150; c <= 1250; c++) {
+            for (int depth = 0; depth <= 4; depth++) {
+                for (int side = 0; side <= 1; side++) {
+                    TrimSheet t = bending(side == 0, c, depth);
+                    String told = Calls.told("25 bending", c, depth, side);
+                    int lowest = 1501 - c;
+                    int first = depth == 0 ? TrimSheet.NONE : depth == 1 ? lowest : lowest - 1;
+                    due(told, t.wrong(GREATEST), first);
+                    due(told + " just so far", t.wrong(lowest), first);
+                    due(told + " not so far", t.wrong(lowest - 2), TrimSheet.NONE);
+                }
+            }
+        }
+    }
+
+    /** The tail tank, then the nose tank: the arm goes to the front till just the turn, and back. */
+    private static void flightWrongWhereTanksTurn() {
+        TrimSheet t = new TrimSheet();
+        t.empty(1000, 2000);
+        t.tank(0, 100);
+        t.tank(3000, 100);
+        t.fuel(0, 100);
+        t.fuel(1, 100);
+        for (int least = 1800; least <= 2001; least++) {
+            t.wipe(1);
+            t.point(1, 1, least, 5000);
+            t.point(1, 1000000, least, 5000);
+            int want = firstInFront(t, least);
+            due("25 at the turn, least " + least, t.wrong(200), want);
+            due("25 at the turn, least " + least + ", of more", t.wrong(GREATEST), want);
+        }
+        t.wipe(1);
+        t.point(1, 1, 1819, 5000);
+        t.point(1, 1000000, 1819, 5000);
+        due("25 just at the turn", t.wrong(200), 100);
+        due("25 just before the turn", t.wrong(99), TrimSheet.NONE);
+    }
+
+    private static int firstInFront(TrimSheet t, int least) {
+        for (int b = 0; b <= t.weight(2); b++) {
+            if (t.burnt(b, 0) < least * t.burnt(b, 1)) {
+                return b;
+            }
+        }
+        return TrimSheet.NONE;
+    }
+
     private static void flightWithoutFuel() {
         Story told = new Story().then("point", 0, 1000, 0, 0).then("point", 1, 1000, 0, 0);
         for (int fuel : new int[] {0, 1, GREATEST}) {
@@ -404,19 +478,19 @@ public final class BalanceBoundsTest {
         Story both = new Story().then("point", 0, 1000, 0, 0).then("point", 1, 1000, 0, 0);
         for (Story told : new Story[] {none, dryOnly, flyingOnly, both}) {
             for (int fuel : new int[] {LEAST, LEAST + 1, -1}) {
-                refused(told, "24 bad is told first", TrimSheet.BAD, "safe", fuel);
-                refused(told, "25 bad is told first", TrimSheet.BAD, "wrong", fuel);
+                changesNothing(told, "24 bad is told first", TrimSheet.BAD, "safe", fuel);
+                changesNothing(told, "25 bad is told first", TrimSheet.BAD, "wrong", fuel);
             }
         }
         for (int fuel : new int[] {0, 1, GREATEST}) {
-            refused(none, "24 no points", TrimSheet.STATE, "safe", fuel);
-            refused(dryOnly, "24 no points of flying", TrimSheet.STATE, "safe", fuel);
-            refused(flyingOnly, "24 no points of dry", TrimSheet.STATE, "safe", fuel);
-            refused(none, "25 no points", TrimSheet.STATE, "wrong", fuel);
-            refused(dryOnly, "25 no points of flying", TrimSheet.STATE, "wrong", fuel);
-            refused(flyingOnly, "25 dry's points are not asked for", TrimSheet.NONE, "wrong", fuel);
-            refused(both, "25 there is none", TrimSheet.NONE, "wrong", fuel);
-            refused(both, "24 safe changes nothing", 1, "safe", fuel);
+            changesNothing(none, "24 no points", TrimSheet.STATE, "safe", fuel);
+            changesNothing(dryOnly, "24 no points of flying", TrimSheet.STATE, "safe", fuel);
+            changesNothing(flyingOnly, "24 no points of dry", TrimSheet.STATE, "safe", fuel);
+            changesNothing(none, "25 no points", TrimSheet.STATE, "wrong", fuel);
+            changesNothing(dryOnly, "25 no points of flying", TrimSheet.STATE, "wrong", fuel);
+            changesNothing(flyingOnly, "25 dry's points are not asked for", TrimSheet.NONE, "wrong", fuel);
+            changesNothing(both, "25 there is none", TrimSheet.NONE, "wrong", fuel);
+            changesNothing(both, "24 safe changes nothing", 1, "safe", fuel);
         }
     }
 }

@@ -263,23 +263,37 @@ public final class BalanceTest {
     private static void wrongInAHollow() {
         TrimSheet t = new TrimSheet();
         t.empty(10000, 2011);
-        t.person(50);
         t.row(2005, 1);
-        t.seat(0, 1);
         t.tank(2000, 950);
-        t.fuel(0, 950);
         t.point(1, 10000, 2011, 5000);
         t.point(1, 11000, 2010, 5000);
-        due("25 a touch in a hollow", t.wrong(950), TrimSheet.NONE);
         t.hold(1, 1);
         t.slot(0, 1999, 1);
+        dueInAHollow("least", t);
+        // The same thing seen from the tail: all arms from 5000 down.
+        TrimSheet tail = new TrimSheet();
+        tail.empty(10000, 2989);
+        tail.row(2995, 1);
+        tail.tank(3000, 950);
+        tail.point(1, 10000, 0, 2989);
+        tail.point(1, 11000, 0, 2990);
+        tail.hold(1, 1);
+        tail.slot(0, 3001, 1);
+        dueInAHollow("greatest", tail);
+    }
+
+    private static void dueInAHollow(String side, TrimSheet t) {
+        t.person(50);
+        t.seat(0, 1);
+        t.fuel(0, 950);
+        due("25 a touch in a hollow, " + side, t.wrong(950), TrimSheet.NONE);
         t.item(1, 0, 1);
         t.load(0, 0, 0);
         t.fuel(0, 949);
-        due("25 before the hollow", t.wrong(468), TrimSheet.NONE);
-        due("25 in a hollow", t.wrong(949), 469);
-        due("25 full is within", t.within(1), 0);
+        due("25 before the hollow, " + side, t.wrong(468), TrimSheet.NONE);
+        due("25 in a hollow, " + side, t.wrong(949), 469);
+        due("25 full is within, " + side, t.within(1), 0);
         t.fuel(0, 400);
-        due("25 behind the hollow", t.wrong(400), TrimSheet.NONE);
+        due("25 behind the hollow, " + side, t.wrong(400), TrimSheet.NONE);
     }
 }

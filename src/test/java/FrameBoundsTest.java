@@ -35,8 +35,8 @@ public final class FrameBoundsTest {
         return new Story();
     }
 
-    private static void refused(Story story, String why, long want, String name, int... numbers) {
-        story.refused(CHECKS, why, want, name, numbers);
+    private static void changesNothing(Story story, String why, long want, String name, int... numbers) {
+        story.changesNothing(CHECKS, why, want, name, numbers);
     }
 
     // ---- 1: "EMPTY WEIGHT 1000, ARM 0; nothing else"
@@ -93,10 +93,10 @@ public final class FrameBoundsTest {
         }
         Story told = story().then("empty", 100000, 5000);
         for (int weight : new int[] {LEAST, -1000, 0, 999, 100001, GREATEST}) {
-            refused(told, "2 weight", TrimSheet.BAD, "empty", weight, 0);
+            changesNothing(told, "2 weight", TrimSheet.BAD, "empty", weight, 0);
         }
         for (int arm : new int[] {LEAST, -1, 5001, GREATEST}) {
-            refused(told, "2 arm", TrimSheet.BAD, "empty", 1000, arm);
+            changesNothing(told, "2 arm", TrimSheet.BAD, "empty", 1000, arm);
         }
     }
 
@@ -158,11 +158,11 @@ public final class FrameBoundsTest {
         }
         Story told = story().then("hold", 1, 1).then("hold", 1, 1).then("hold", 1, 1);
         told.then("hold", 1, 1).then("slot", 3, 5, 5).then("item", 1, 0, 1).then("load", 0, 3, 0);
-        refused(told, "3 a fifth", TrimSheet.FULL, "hold", 0, 0);
-        refused(told, "3 a fifth", TrimSheet.FULL, "hold", 20000, 20000);
+        changesNothing(told, "3 a fifth", TrimSheet.FULL, "hold", 0, 0);
+        changesNothing(told, "3 a fifth", TrimSheet.FULL, "hold", 20000, 20000);
         for (int bad : new int[] {LEAST, -1, 20001, GREATEST}) {
-            refused(told, "3 bad is told before full", TrimSheet.BAD, "hold", bad, 0);
-            refused(told, "3 bad is told before full", TrimSheet.BAD, "hold", 0, bad);
+            changesNothing(told, "3 bad is told before full", TrimSheet.BAD, "hold", bad, 0);
+            changesNothing(told, "3 bad is told before full", TrimSheet.BAD, "hold", 0, bad);
         }
     }
 
@@ -182,14 +182,14 @@ public final class FrameBoundsTest {
     private static void slotArmsRise() {
         Story told = story().then("hold", 100, 100).then("hold", 100, 100).then("slot", 0, 2500, 100);
         for (int arm : new int[] {LEAST, -1, 0, 2499, 2500, 5001, GREATEST}) {
-            refused(told, "4 arm", TrimSheet.BAD, "slot", 0, arm, 100);
+            changesNothing(told, "4 arm", TrimSheet.BAD, "slot", 0, arm, 100);
         }
         due("4 one above", told.told().slot(0, 2501, 100), 1);
         due("4 as far as can be", told.told().slot(0, 5000, 100), 1);
         due("4 another hold starts anew", told.told().slot(1, 0, 100), 0);
         due("4 another hold starts anew", told.told().slot(1, 2500, 100), 0);
-        refused(told.then("slot", 0, 5000, 100), "4 none is above 5000", TrimSheet.BAD, "slot", 0, 5000, 100);
-        refused(told, "4 none is above 5000", TrimSheet.BAD, "slot", 0, 5001, 100);
+        changesNothing(told.then("slot", 0, 5000, 100), "4 none is above 5000", TrimSheet.BAD, "slot", 0, 5000, 100);
+        changesNothing(told, "4 none is above 5000", TrimSheet.BAD, "slot", 0, 5001, 100);
         due("4 a refused arm does not count", story().then("hold", 9, 9).then("slot", 0, 4000, -1).told()
                 .slot(0, 3, 9), 0);
     }
@@ -202,12 +202,12 @@ public final class FrameBoundsTest {
                 due("4 slot " + s, told.told().slot(h, 4992 + s, s), s);
                 told.then("slot", h, 4992 + s, s);
             }
-            refused(told, "4 a ninth", TrimSheet.FULL, "slot", h, 5000, 20000);
-            refused(told, "4 bad is told before full", TrimSheet.BAD, "slot", h, 4999, 20000);
-            refused(told, "4 bad is told before full", TrimSheet.BAD, "slot", h, 5000, 20001);
+            changesNothing(told, "4 a ninth", TrimSheet.FULL, "slot", h, 5000, 20000);
+            changesNothing(told, "4 bad is told before full", TrimSheet.BAD, "slot", h, 4999, 20000);
+            changesNothing(told, "4 bad is told before full", TrimSheet.BAD, "slot", h, 5000, 20001);
             due("4 count", told.told().count(1), 8 * (h + 1));
         }
-        refused(told, "4 no fifth hold", TrimSheet.NONE, "slot", 4, 5000, 0);
+        changesNothing(told, "4 no fifth hold", TrimSheet.NONE, "slot", 4, 5000, 0);
     }
 
     // ---- 5: "Two KINDS (perhaps alike) may be told to be APART by d (1 .. 8)", "0: any way": what it was
@@ -232,9 +232,9 @@ public final class FrameBoundsTest {
         }
         Story told = story().then("apart", 0, 7, 8).then("apart", 3, 3, 1);
         for (int d : new int[] {LEAST, -1, 9, GREATEST}) {
-            refused(told, "5 d", TrimSheet.BAD, "apart", 0, 7, d);
-            refused(told, "5 none is told before bad", TrimSheet.NONE, "apart", 0, 8, d);
-            refused(told, "5 none is told before bad", TrimSheet.NONE, "apart", -1, 0, d);
+            changesNothing(told, "5 d", TrimSheet.BAD, "apart", 0, 7, d);
+            changesNothing(told, "5 none is told before bad", TrimSheet.NONE, "apart", 0, 8, d);
+            changesNothing(told, "5 none is told before bad", TrimSheet.NONE, "apart", -1, 0, d);
         }
     }
 
@@ -274,12 +274,12 @@ public final class FrameBoundsTest {
             due("6 count", told.told().count(2), i + 1);
             due("6 not loaded", told.told().where(i), TrimSheet.NONE);
         }
-        refused(told, "6 a forty-first", TrimSheet.FULL, "item", 1, 0, 1);
-        refused(told, "6 a forty-first", TrimSheet.FULL, "item", 5000, 7, 4);
-        refused(told, "6 bad is told before none", TrimSheet.BAD, "item", 0, 8, 5);
-        refused(told, "6 bad is told before full", TrimSheet.BAD, "item", 5001, 0, 1);
-        refused(told, "6 none is told before full", TrimSheet.NONE, "item", 1, 8, 1);
-        refused(told, "6 none is told before full", TrimSheet.NONE, "item", 1, 0, 0);
+        changesNothing(told, "6 a forty-first", TrimSheet.FULL, "item", 1, 0, 1);
+        changesNothing(told, "6 a forty-first", TrimSheet.FULL, "item", 5000, 7, 4);
+        changesNothing(told, "6 bad is told before none", TrimSheet.BAD, "item", 0, 8, 5);
+        changesNothing(told, "6 bad is told before full", TrimSheet.BAD, "item", 5001, 0, 1);
+        changesNothing(told, "6 none is told before full", TrimSheet.NONE, "item", 1, 8, 1);
+        changesNothing(told, "6 none is told before full", TrimSheet.NONE, "item", 1, 0, 0);
         due("6 the fortieth can be loaded", told.then("hold", 40, 40).then("slot", 0, 0, 40).told().load(39, 0, 0), 0);
     }
 
@@ -298,13 +298,13 @@ public final class FrameBoundsTest {
             due("7 none is taken", t.seat(r, seats), 0);
             due("7 weight", t.weight(0), 1000 + 80 * seats);
             due("7 moment", t.moment(0), 80L * seats * arm);
-            refused(told, "7 more than it has", TrimSheet.BAD, "seat", r, seats + 1);
+            changesNothing(told, "7 more than it has", TrimSheet.BAD, "seat", r, seats + 1);
         }
-        refused(told, "7 an eleventh", TrimSheet.FULL, "row", 0, 1);
-        refused(told, "7 an eleventh", TrimSheet.FULL, "row", 5000, 8);
+        changesNothing(told, "7 an eleventh", TrimSheet.FULL, "row", 0, 1);
+        changesNothing(told, "7 an eleventh", TrimSheet.FULL, "row", 5000, 8);
         for (int seats : new int[] {LEAST, -1, 0, 9, GREATEST}) {
-            refused(told, "7 bad is told before full", TrimSheet.BAD, "row", 0, seats);
-            refused(story(), "7 seats", TrimSheet.BAD, "row", 0, seats);
+            changesNothing(told, "7 bad is told before full", TrimSheet.BAD, "row", 0, seats);
+            changesNothing(story(), "7 seats", TrimSheet.BAD, "row", 0, seats);
         }
     }
 
@@ -324,12 +324,12 @@ public final class FrameBoundsTest {
             due("11 weight", t.weight(2), mosts[n]);
             due("11 moment", t.moment(2), (long) mosts[n] * arms[n]);
             due("11 what it was", t.fuel(n, 0), mosts[n]);
-            refused(told, "11 more than its most", TrimSheet.BAD, "fuel", n, mosts[n] + 1);
+            changesNothing(told, "11 more than its most", TrimSheet.BAD, "fuel", n, mosts[n] + 1);
         }
-        refused(told, "8 a fifth", TrimSheet.FULL, "tank", 0, 0);
-        refused(told, "8 a fifth", TrimSheet.FULL, "tank", 5000, 20000);
-        refused(told, "8 bad is told before full", TrimSheet.BAD, "tank", 5001, 0);
-        refused(told, "8 bad is told before full", TrimSheet.BAD, "tank", 0, 20001);
+        changesNothing(told, "8 a fifth", TrimSheet.FULL, "tank", 0, 0);
+        changesNothing(told, "8 a fifth", TrimSheet.FULL, "tank", 5000, 20000);
+        changesNothing(told, "8 bad is told before full", TrimSheet.BAD, "tank", 5001, 0);
+        changesNothing(told, "8 bad is told before full", TrimSheet.BAD, "tank", 0, 20001);
     }
 
     // ---- 9: "A PASSENGER weighs PERSON (50 .. 150; 80 at first)"
@@ -347,7 +347,7 @@ public final class FrameBoundsTest {
             due("9 count", told.told().count(7), weight);
         }
         for (int bad : new int[] {LEAST, -80, 0, 49, 151, GREATEST}) {
-            refused(told, "9", TrimSheet.BAD, "person", bad);
+            changesNothing(told, "9", TrimSheet.BAD, "person", bad);
         }
     }
 
@@ -362,12 +362,12 @@ public final class FrameBoundsTest {
             due("10 none", t.seat(0, 0), seats);
             due("10 none", t.count(5), 8);
             told.then("seat", 0, seats - 1);
-            refused(told, "10 one more than it has", TrimSheet.BAD, "seat", 0, seats + 1);
-            refused(told, "10 one below none", TrimSheet.BAD, "seat", 0, -1);
-            refused(told, "10", TrimSheet.BAD, "seat", 0, GREATEST);
-            refused(told, "10", TrimSheet.BAD, "seat", 0, LEAST);
-            refused(told, "10 no third row", TrimSheet.NONE, "seat", 2, 0);
-            refused(told, "10 none is told before bad", TrimSheet.NONE, "seat", -1, 9);
+            changesNothing(told, "10 one more than it has", TrimSheet.BAD, "seat", 0, seats + 1);
+            changesNothing(told, "10 one below none", TrimSheet.BAD, "seat", 0, -1);
+            changesNothing(told, "10", TrimSheet.BAD, "seat", 0, GREATEST);
+            changesNothing(told, "10", TrimSheet.BAD, "seat", 0, LEAST);
+            changesNothing(told, "10 no third row", TrimSheet.NONE, "seat", 2, 0);
+            changesNothing(told, "10 none is told before bad", TrimSheet.NONE, "seat", -1, 9);
         }
     }
 
@@ -378,13 +378,13 @@ public final class FrameBoundsTest {
         due("11 full", told.told().weight(2), 20000);
         due("11 one less", told.told().fuel(0, 19999), 20000);
         due("11 nothing in a tank for nothing", told.told().fuel(1, 0), 0);
-        refused(told, "11 one more", TrimSheet.BAD, "fuel", 0, 20001);
-        refused(told, "11 one more", TrimSheet.BAD, "fuel", 1, 1);
-        refused(told, "11 one below nothing", TrimSheet.BAD, "fuel", 0, -1);
-        refused(told, "11", TrimSheet.BAD, "fuel", 0, GREATEST);
-        refused(told, "11", TrimSheet.BAD, "fuel", 0, LEAST);
-        refused(told, "11 no third tank", TrimSheet.NONE, "fuel", 2, 0);
-        refused(told, "11 none is told before bad", TrimSheet.NONE, "fuel", -1, -1);
+        changesNothing(told, "11 one more", TrimSheet.BAD, "fuel", 0, 20001);
+        changesNothing(told, "11 one more", TrimSheet.BAD, "fuel", 1, 1);
+        changesNothing(told, "11 one below nothing", TrimSheet.BAD, "fuel", 0, -1);
+        changesNothing(told, "11", TrimSheet.BAD, "fuel", 0, GREATEST);
+        changesNothing(told, "11", TrimSheet.BAD, "fuel", 0, LEAST);
+        changesNothing(told, "11 no third tank", TrimSheet.NONE, "fuel", 2, 0);
+        changesNothing(told, "11 none is told before bad", TrimSheet.NONE, "fuel", -1, -1);
     }
 
     // ---- 12: "POINTS (10 at most), WEIGHTS rising, each with a least and a greatest ARM"
@@ -396,23 +396,23 @@ public final class FrameBoundsTest {
             due("12 as wide as can be", new TrimSheet().point(phase, 1, 0, 5000), 1);
             Story told = story();
             for (int weight : new int[] {LEAST, -1, 0, 1000001, GREATEST}) {
-                refused(told, "12 weight", TrimSheet.BAD, "point", phase, weight, 0, 0);
+                changesNothing(told, "12 weight", TrimSheet.BAD, "point", phase, weight, 0, 0);
             }
             for (int arm : new int[] {LEAST, -1, 5001, GREATEST}) {
-                refused(told, "12 least", TrimSheet.BAD, "point", phase, 1, arm, 5000);
-                refused(told, "12 greatest", TrimSheet.BAD, "point", phase, 1, 0, arm);
-                refused(told, "12 both", TrimSheet.BAD, "point", phase, 1, arm, arm);
+                changesNothing(told, "12 least", TrimSheet.BAD, "point", phase, 1, arm, 5000);
+                changesNothing(told, "12 greatest", TrimSheet.BAD, "point", phase, 1, 0, arm);
+                changesNothing(told, "12 both", TrimSheet.BAD, "point", phase, 1, arm, arm);
             }
-            refused(told, "12 least above greatest", TrimSheet.BAD, "point", phase, 1, 1, 0);
-            refused(told, "12 least above greatest", TrimSheet.BAD, "point", phase, 1, 5000, 4999);
+            changesNothing(told, "12 least above greatest", TrimSheet.BAD, "point", phase, 1, 1, 0);
+            changesNothing(told, "12 least above greatest", TrimSheet.BAD, "point", phase, 1, 5000, 4999);
             for (int n = 1; n <= 10; n++) {
                 due("12 how many", told.told().point(phase, 1000 + n, n, n), n);
                 told.then("point", phase, 1000 + n, n, n);
             }
-            refused(told, "12 an eleventh", TrimSheet.FULL, "point", phase, 1011, 0, 0);
-            refused(told, "12 an eleventh", TrimSheet.FULL, "point", phase, 1000000, 0, 5000);
-            refused(told, "12 bad is told before full", TrimSheet.BAD, "point", phase, 1010, 0, 0);
-            refused(told, "12 bad is told before full", TrimSheet.BAD, "point", phase, 1011, 1, 0);
+            changesNothing(told, "12 an eleventh", TrimSheet.FULL, "point", phase, 1011, 0, 0);
+            changesNothing(told, "12 an eleventh", TrimSheet.FULL, "point", phase, 1000000, 0, 5000);
+            changesNothing(told, "12 bad is told before full", TrimSheet.BAD, "point", phase, 1010, 0, 0);
+            changesNothing(told, "12 bad is told before full", TrimSheet.BAD, "point", phase, 1011, 1, 0);
             due("12 the other phase has its own", told.told().point(1 - phase, 1, 0, 0), 1);
         }
     }
@@ -420,13 +420,13 @@ public final class FrameBoundsTest {
     private static void pointWeightsRise() {
         Story told = story().then("point", 1, 2000, 0, 5000);
         for (int weight : new int[] {1, 1999, 2000}) {
-            refused(told, "12 not above the last one's", TrimSheet.BAD, "point", 1, weight, 0, 5000);
+            changesNothing(told, "12 not above the last one's", TrimSheet.BAD, "point", 1, weight, 0, 5000);
         }
         due("12 one above", told.told().point(1, 2001, 0, 5000), 2);
         due("12 the other phase's do not matter", told.told().point(0, 1, 0, 5000), 1);
         told.then("point", 1, 1000000, 0, 5000);
-        refused(told, "12 none is above 1000000", TrimSheet.BAD, "point", 1, 1000000, 0, 5000);
-        refused(told, "12 none is above 1000000", TrimSheet.BAD, "point", 1, 1000001, 0, 5000);
+        changesNothing(told, "12 none is above 1000000", TrimSheet.BAD, "point", 1, 1000000, 0, 5000);
+        changesNothing(told, "12 none is above 1000000", TrimSheet.BAD, "point", 1, 1000001, 0, 5000);
     }
 
     // ---- 13: "A PHASE has no POINTS: how many it had"
@@ -447,9 +447,9 @@ public final class FrameBoundsTest {
                 due("13 anew, from 1 on", told.told().point(phase, n, 0, 0), n);
                 told.then("point", phase, n, 0, 0);
             }
-            refused(told, "13 full again", TrimSheet.FULL, "point", phase, 11, 0, 0);
+            changesNothing(told, "13 full again", TrimSheet.FULL, "point", phase, 11, 0, 0);
             for (int none : new int[] {LEAST, -1, 2, GREATEST}) {
-                refused(told, "13", TrimSheet.NONE, "wipe", none);
+                changesNothing(told, "13", TrimSheet.NONE, "wipe", none);
             }
         }
     }

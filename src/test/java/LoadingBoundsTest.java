@@ -26,8 +26,8 @@ public final class LoadingBoundsTest {
         CHECKS.end("LoadingBoundsTest");
     }
 
-    private static void refused(Story story, String why, long want, String name, int... numbers) {
-        story.refused(CHECKS, why, want, name, numbers);
+    private static void changesNothing(Story story, String why, long want, String name, int... numbers) {
+        story.changesNothing(CHECKS, why, want, name, numbers);
     }
 
     /** Holds of eight slots each that bear all. */
@@ -65,10 +65,10 @@ public final class LoadingBoundsTest {
             }
             told.mustBeGood(CHECKS);
             int want = reasons == 0 ? 0 : 1 + Integer.numberOfTrailingZeros(reasons);
-            refused(told, "14 reasons " + reasons, want, "fits", 1, 0, 1);
+            changesNothing(told, "14 reasons " + reasons, want, "fits", 1, 0, 1);
             due("15 reasons " + reasons, told.told().load(1, 0, 1), want);
             if (want != 0) {
-                refused(told, "15 reasons " + reasons, want, "load", 1, 0, 1);
+                changesNothing(told, "15 reasons " + reasons, want, "load", 1, 0, 1);
             }
         }
     }
@@ -240,44 +240,44 @@ public final class LoadingBoundsTest {
     private static void loadedOnesAreRefused() {
         Story told = oneLoaded();
         for (String call : new String[] {"fits", "load"}) {
-            refused(told, "14, 15 to a free slot", TrimSheet.STATE, call, 0, 0, 1);
-            refused(told, "14, 15 to its own slot", TrimSheet.STATE, call, 0, 0, 0);
-            refused(told, "14, 15 none is told before state", TrimSheet.NONE, call, 0, 0, 2);
-            refused(told, "14, 15 none is told before state", TrimSheet.NONE, call, 0, 1, 0);
+            changesNothing(told, "14, 15 to a free slot", TrimSheet.STATE, call, 0, 0, 1);
+            changesNothing(told, "14, 15 to its own slot", TrimSheet.STATE, call, 0, 0, 0);
+            changesNothing(told, "14, 15 none is told before state", TrimSheet.NONE, call, 0, 0, 2);
+            changesNothing(told, "14, 15 none is told before state", TrimSheet.NONE, call, 0, 1, 0);
         }
     }
 
     private static void whatThereIsNot() {
         Story told = oneLoaded();
         for (int none : new int[] {LEAST, -1, 2, 39, 40, GREATEST}) {
-            refused(told, "14 item", TrimSheet.NONE, "fits", none, 0, 1);
-            refused(told, "14 hold", TrimSheet.NONE, "fits", 1, none, 1);
-            refused(told, "14 slot", TrimSheet.NONE, "fits", 1, 0, none);
-            refused(told, "15 item", TrimSheet.NONE, "load", none, 0, 1);
-            refused(told, "15 hold", TrimSheet.NONE, "load", 1, none, 1);
-            refused(told, "15 slot", TrimSheet.NONE, "load", 1, 0, none);
-            refused(told, "16 item", TrimSheet.NONE, "unload", none);
-            refused(told, "17 item", TrimSheet.NONE, "where", none);
-            refused(told, "18 hold", TrimSheet.NONE, "in", none, 0);
-            refused(told, "18 slot", TrimSheet.NONE, "in", 0, none);
-            refused(told, "19 hold", TrimSheet.NONE, "about", none, 0);
+            changesNothing(told, "14 item", TrimSheet.NONE, "fits", none, 0, 1);
+            changesNothing(told, "14 hold", TrimSheet.NONE, "fits", 1, none, 1);
+            changesNothing(told, "14 slot", TrimSheet.NONE, "fits", 1, 0, none);
+            changesNothing(told, "15 item", TrimSheet.NONE, "load", none, 0, 1);
+            changesNothing(told, "15 hold", TrimSheet.NONE, "load", 1, none, 1);
+            changesNothing(told, "15 slot", TrimSheet.NONE, "load", 1, 0, none);
+            changesNothing(told, "16 item", TrimSheet.NONE, "unload", none);
+            changesNothing(told, "17 item", TrimSheet.NONE, "where", none);
+            changesNothing(told, "18 hold", TrimSheet.NONE, "in", none, 0);
+            changesNothing(told, "18 slot", TrimSheet.NONE, "in", 0, none);
+            changesNothing(told, "19 hold", TrimSheet.NONE, "about", none, 0);
         }
         for (int none : new int[] {LEAST, -1, 3, GREATEST}) {
-            refused(told, "19 what", TrimSheet.NONE, "about", 0, none);
+            changesNothing(told, "19 what", TrimSheet.NONE, "about", 0, none);
         }
-        refused(told, "17 not loaded", TrimSheet.NONE, "where", 1);
-        refused(told, "18 free", TrimSheet.NONE, "in", 0, 1);
+        changesNothing(told, "17 not loaded", TrimSheet.NONE, "where", 1);
+        changesNothing(told, "18 free", TrimSheet.NONE, "in", 0, 1);
         // Places are counted on from hold to hold; a number beyond its hold's slots must not reach the next one.
         told.then("hold", 100, 100).then("slot", 1, 1, 100).then("load", 1, 1, 0);
-        refused(told, "18 slot 8 of hold 0", TrimSheet.NONE, "in", 0, 8);
-        refused(told, "18 slot -8 of hold 1", TrimSheet.NONE, "in", 1, -8);
+        changesNothing(told, "18 slot 8 of hold 0", TrimSheet.NONE, "in", 0, 8);
+        changesNothing(told, "18 slot -8 of hold 1", TrimSheet.NONE, "in", 1, -8);
     }
 
     // ---- 16: "An ITEM is LOADED no more: 0. NONE; STATE: it was not"
 
     private static void unloadEmptyAndFull() {
         Story told = oneLoaded();
-        refused(told, "16 it was not", TrimSheet.STATE, "unload", 1);
+        changesNothing(told, "16 it was not", TrimSheet.STATE, "unload", 1);
         TrimSheet t = told.told();
         due("16 out", t.unload(0), 0);
         due("16 it was not any more", t.unload(0), TrimSheet.STATE);

@@ -214,14 +214,14 @@ public final class RefusalsTest {
     private void callOne(String name, int[] a) {
         long want = refusal(name, a);
         if (want != 0) {
-            story.refused(CHECKS, state, want, name, a);
+            story.changesNothing(CHECKS, state, want, name, a);
             return;
         }
         long got = Calls.call(story.told(), name, a);
         boolean isGood = got >= 0 || name.equals("best") && got == -5;
         CHECKS.holds(state + ": " + Calls.told(name, a) + " is not refused, but answered " + got, isGood);
         if (ASKING.contains(name) || isGood && got > 0 && name.equals("load") || got == -5) {
-            story.refused(CHECKS, state, got, name, a);
+            story.changesNothing(CHECKS, state, got, name, a);
         }
     }
 

@@ -20,6 +20,7 @@ public final class RulesBoundsTest {
         loadAllAlikeWeights();
         loadAllAlikeSlots();
         loadAllBothSides();
+        loadAllOneByOne();
         loadAllToTheLeastAndTheGreatestArm();
         loadAllOneStays();
         betterNothing();
@@ -27,9 +28,13 @@ public final class RulesBoundsTest {
         betterFiftyTimes();
         betterFirstOfSeveral();
         betterOnlyWhereItFits();
+        betterSwapsThatJustFit();
+        betterTakesOutWhatMoves();
         bestItemsAtMost();
         bestSlotsAtMost();
         bestAlikeWays();
+        bestCountsWhatLiesThere();
+        bestAgainAndAgain();
         bestNoWayAtAll();
         lateNoneAndAll();
         lateAlikeRows();
@@ -39,8 +44,8 @@ public final class RulesBoundsTest {
         CHECKS.end("RulesBoundsTest");
     }
 
-    private static void refused(Story story, String why, long want, String name, int... numbers) {
-        story.refused(CHECKS, why, want, name, numbers);
+    private static void changesNothing(Story story, String why, long want, String name, int... numbers) {
+        story.changesNothing(CHECKS, why, want, name, numbers);
     }
 
     /** An aircraft of 1000 at arm 1000, with a hold that bears all and slots at these arms. */
@@ -131,7 +136,7 @@ public final class RulesBoundsTest {
     private static void pushedChangesNothing() {
         Story told = items(at(1, 2, 3), 5).then("item", 6, 0, 2).then("load", 0, 0, 2).then("load", 1, 0, 0);
         for (int stop = 0; stop <= 4; stop++) {
-            refused(told, "26 it is put back where it was", stop < 2 ? 1 : 0, "pushed", stop);
+            changesNothing(told, "26 it is put back where it was", stop < 2 ? 1 : 0, "pushed", stop);
         }
     }
 
@@ -179,10 +184,10 @@ public final class RulesBoundsTest {
     private static void stopsThereAreNot() {
         Story told = items(at(1, 2), 5).then("load", 0, 0, 1);
         for (int none : new int[] {LEAST, -1, 5, 33, GREATEST}) {
-            refused(told, "26", TrimSheet.NONE, "pushed", none);
-            refused(told, "27", TrimSheet.NONE, "arrive", none);
+            changesNothing(told, "26", TrimSheet.NONE, "pushed", none);
+            changesNothing(told, "27", TrimSheet.NONE, "arrive", none);
         }
-        refused(told, "27", TrimSheet.NONE, "arrive", 0);
+        changesNothing(told, "27", TrimSheet.NONE, "arrive", 0);
         due("26 stop 0 is all together", told.told().pushed(0), 0);
     }
 
@@ -191,10 +196,10 @@ public final class RulesBoundsTest {
     private static void loadAllNothing() {
         due("28 no hold, no item", new TrimSheet().loadAll(0), 0);
         due("28 no item", at(1, 2).told().loadAll(0), 0);
-        refused(items(new Story(), 5), "28 no hold", 0, "loadAll", 0);
-        refused(items(at(), 5), "28 no slot", 0, "loadAll", 0);
-        refused(items(at(1), 5, 6).then("load", 0, 0, 0), "28 no free slot", 0, "loadAll", 0);
-        refused(items(at(1, 2), 5).then("load", 0, 0, 0), "28 all are loaded", 0, "loadAll", 0);
+        changesNothing(items(new Story(), 5), "28 no hold", 0, "loadAll", 0);
+        changesNothing(items(at(), 5), "28 no slot", 0, "loadAll", 0);
+        changesNothing(items(at(1), 5, 6).then("load", 0, 0, 0), "28 no free slot", 0, "loadAll", 0);
+        changesNothing(items(at(1, 2), 5).then("load", 0, 0, 0), "28 all are loaded", 0, "loadAll", 0);
     }
 
     private static void loadAllMoreThanThereIsRoom() {
@@ -254,6 +259,14 @@ public final class RulesBoundsTest {
         due("28 400 brings it just to 800", over.where(0), 1);
     }
 
+    /** Each one that is loaded moves the dry arm for the next one. */
+    private static void loadAllOneByOne() {
+        TrimSheet t = items(hold(at(900, 1100), 1, 901), 10, 10).told();
+        due("28 two", t.loadAll(1000), 2);
+        // 901 for the first; then 1100 all but makes up for it, while 900 would do as well from the start.
+        dueWhere("28 two", t, 8, 1);
+    }
+
     private static void loadAllToTheLeastAndTheGreatestArm() {
         TrimSheet t = items(at(0, 1, 4999, 5000), 5000).told();
         due("28 to 0", t.loadAll(0), 1);
@@ -279,21 +292,22 @@ public final class RulesBoundsTest {
 
     private static void betterNothing() {
         due("29 no hold", new TrimSheet().better(0), 0);
-        refused(items(at(1, 2), 5, 6), "29 none is loaded", 0, "better", 0);
-        refused(items(at(5), 5).then("load", 0, 0, 0), "29 no free slot", 0, "better", 0);
-        refused(items(at(1000, 1001), 5).then("load", 0, 0, 0), "29 just the arm", 0, "better", 1000);
+        changesNothing(items(at(1, 2), 5, 6), "29 none is loaded", 0, "better", 0);
+        changesNothing(items(at(5), 5).then("load", 0, 0, 0), "29 no free slot", 0, "better", 0);
+        changesNothing(items(at(1000, 1001), 5).then("load", 0, 0, 0), "29 just the arm", 0, "better", 1000);
     }
 
     /** "the DRY ARM is nearer to the told one than before": as near is not enough. */
     private static void betterNotNearer() {
-        refused(items(at(900, 1100), 10).then("load", 0, 0, 0), "29 as near on the other side", 0, "better", 1000);
+        Story near = items(at(900, 1100), 10).then("load", 0, 0, 0);
+        changesNothing(near, "29 as near on the other side", 0, "better", 1000);
         due("29 one nearer", items(at(900, 1099), 10).then("load", 0, 0, 0).told().better(1000), 1);
-        refused(items(at(900, 1101), 10).then("load", 0, 0, 0), "29 one farther", 0, "better", 1000);
+        changesNothing(items(at(900, 1101), 10).then("load", 0, 0, 0), "29 one farther", 0, "better", 1000);
         Story alike = items(at(900, 1000), 10, 10).then("load", 0, 0, 0).then("load", 1, 0, 1);
-        refused(alike, "29 alike weights swapped", 0, "better", 1000);
-        Story same = hold(at(900), 1, 900);
-        refused(items(same, 10, 11).then("load", 0, 0, 0).then("load", 1, 1, 0), "29 alike arms swapped", 0, "better", 0);
-        refused(items(hold(at(900), 1, 900), 10).then("load", 0, 0, 0), "29 to an alike arm", 0, "better", 0);
+        changesNothing(alike, "29 alike weights swapped", 0, "better", 1000);
+        Story same = items(hold(at(900), 1, 900), 10, 11).then("load", 0, 0, 0).then("load", 1, 1, 0);
+        changesNothing(same, "29 alike arms swapped", 0, "better", 0);
+        changesNothing(items(hold(at(900), 1, 900), 10).then("load", 0, 0, 0), "29 to an alike arm", 0, "better", 0);
     }
 
     /** Two alike items that go step by step from slot to slot, one behind the other. */
@@ -353,6 +367,44 @@ public final class RulesBoundsTest {
         dueWhere("29 the slot's and the hold's most", t, 0, 8);
     }
 
+    /**
+     * Item 1 of 15 comes from behind next to item 2 of 15, item 0 of 10 next to item 3 of 1: the only
+     * good swap, if both fit where they come.
+     */
+    private static int swapped(int slotMost, int holdMost, int floor, int oneAndTwo, int zeroAndThree) {
+        Story told = new Story().then("empty", 1000, 1000).then("hold", holdMost, floor).then("hold", 16, 16);
+        told.then("slot", 0, 900, 15).then("slot", 0, 901, slotMost);
+        told.then("slot", 1, 1100, 15).then("slot", 1, 1101, 15);
+        told.then("item", 10, 0, 1).then("item", 15, 1, 1).then("item", 15, 2, 1).then("item", 1, 3, 1);
+        told.then("apart", 1, 2, oneAndTwo).then("apart", 3, 0, zeroAndThree);
+        told.then("load", 0, 0, 1).then("load", 1, 1, 0).then("load", 2, 0, 0).then("load", 3, 1, 1);
+        told.mustBeGood(CHECKS);
+        TrimSheet t = told.told();
+        int done = t.better(0);
+        dueWhere("29 swapped or not", t, done == 1 ? 8 : 1, done == 1 ? 1 : 8, 0, 9);
+        return done;
+    }
+
+    private static void betterSwapsThatJustFit() {
+        due("29 all just fits", swapped(15, 30, 30, 1, 1), 1);
+        due("29 one above the slot's most", swapped(14, 30, 30, 1, 1), 0);
+        due("29 one above the hold's most", swapped(15, 29, 30, 1, 1), 0);
+        due("29 one above the floor", swapped(15, 30, 29, 1, 1), 0);
+        due("29 too near, the greater one", swapped(15, 30, 30, 2, 1), 0);
+        due("29 too near, the lesser one", swapped(15, 30, 30, 1, 2), 0);
+    }
+
+    /** "those that move taken out": what moves is not in its own way. */
+    private static void betterTakesOutWhatMoves() {
+        Story told = new Story().then("empty", 1000, 1000).then("hold", 10, 10).then("apart", 0, 0, 8);
+        told.then("slot", 0, 900, 10).then("slot", 0, 1000, 10).then("item", 10, 0, 1).then("load", 0, 0, 0);
+        due("29 a move in a hold that is full with it", told.told().better(1000), 1);
+        Story two = new Story().then("empty", 1000, 1000).then("hold", 30, 30).then("apart", 0, 0, 2);
+        two.then("slot", 0, 900, 20).then("slot", 0, 950, 20).then("slot", 0, 1000, 20);
+        two.then("item", 10, 0, 1).then("item", 20, 0, 1).then("load", 0, 0, 2).then("load", 1, 0, 0);
+        due("29 a swap in a hold that is full with both", two.told().better(1000), 1);
+    }
+
     // ---- 30: "for 4 ITEMS that are not LOADED at most and 10 free SLOTS at most"
 
     private static Story slots(int many) {
@@ -368,7 +420,7 @@ public final class RulesBoundsTest {
 
     private static void bestItemsAtMost() {
         Story told = slots(10);
-        refused(told, "30 no item", TrimSheet.STATE, "best", 1000);
+        changesNothing(told, "30 no item", TrimSheet.STATE, "best", 1000);
         for (int n = 1; n <= 4; n++) {
             items(told, 10 * n);
             TrimSheet t = told.told();
@@ -377,16 +429,16 @@ public final class RulesBoundsTest {
             due("30 no item is left", t.best(1000), TrimSheet.STATE);
         }
         items(told, 50);
-        refused(told, "30 five items", TrimSheet.STATE, "best", 1000);
+        changesNothing(told, "30 five items", TrimSheet.STATE, "best", 1000);
         told.then("load", 4, 0, 0);
         due("30 five items, four that are not loaded", told.told().best(1000), 0);
         told.then("unload", 4).then("load", 0, 1, 1);
         due("30 another four of five", told.told().best(1000), 0);
         items(told, 60);
-        refused(told, "30 five of six", TrimSheet.STATE, "best", 1000);
-        refused(told, "30 bad is told before state", TrimSheet.BAD, "best", 5001);
+        changesNothing(told, "30 five of six", TrimSheet.STATE, "best", 1000);
+        changesNothing(told, "30 bad is told before state", TrimSheet.BAD, "best", 5001);
         Story loaded = items(slots(10), 5, 6).then("load", 0, 0, 0).then("load", 1, 0, 1);
-        refused(loaded, "30 all are loaded", TrimSheet.STATE, "best", 0);
+        changesNothing(loaded, "30 all are loaded", TrimSheet.STATE, "best", 0);
     }
 
     private static void bestSlotsAtMost() {
@@ -395,7 +447,7 @@ public final class RulesBoundsTest {
             if (many <= 10) {
                 due("30 free slots " + many, told.told().best(1000), 0);
             } else {
-                refused(told, "30 free slots " + many, TrimSheet.STATE, "best", 1000);
+                changesNothing(told, "30 free slots " + many, TrimSheet.STATE, "best", 1000);
             }
         }
         Story told = slots(32);
@@ -403,7 +455,7 @@ public final class RulesBoundsTest {
             told.then("item", 10, 0, 1).then("load", i, i / 8, i % 8);
         }
         items(told, 11);
-        refused(told, "30 eleven free slots of 32", TrimSheet.STATE, "best", 1000);
+        changesNothing(told, "30 eleven free slots of 32", TrimSheet.STATE, "best", 1000);
         told.then("load", 21, 2, 5);
         items(told, 12, 13, 14, 15);
         due("30 ten free slots of 32, four items", told.told().best(1000), 0);
@@ -427,21 +479,44 @@ public final class RulesBoundsTest {
         TrimSheet pushed = stops.told();
         due("30 less pushed is before nearer and first", pushed.best(1000), 0);
         dueWhere("30 less pushed", pushed, 1, 0);
+    }
+
+    private static void bestCountsWhatLiesThere() {
         Story there = at(900, 1000, 1100).then("item", 10, 0, 1).then("item", 10, 0, 2).then("load", 0, 0, 2);
-        due("30 those that lie there count, too", there.told().best(1000), 1);
+        due("30 pushed by one that lies there", there.told().best(1000), 1);
+        Story before = hold(at(900, 1000, 1100), 1, 1000).then("item", 10, 0, 2).then("item", 10, 0, 1);
+        before.then("load", 0, 0, 0).then("load", 1, 0, 1).then("item", 10, 0, 1);
+        TrimSheet t = before.told();
+        due("30 one was pushed before", t.best(1100), 1);
+        due("30 in the same hold", t.where(2), 2);
+        TrimSheet other = before.told();
+        due("30 one was pushed before", other.best(0), 1);
+        due("30 in the other hold", other.where(2), 8);
+        TrimSheet more = before.then("item", 10, 0, 4).told();
+        due("30 none more is pushed", more.best(1000), 1);
+        due("30 none more is pushed", more.pushed(0), 1);
+    }
+
+    private static void bestAgainAndAgain() {
+        TrimSheet t = items(slots(10), 10, 20, 30, 40).told();
+        for (int round = 0; round < 30; round++) {
+            due("30 round " + round, t.best(round % 2 == 0 ? 0 : 5000), 0);
+            dueWhere("30 round " + round, t, round % 2 == 0 ? new int[] {3, 2, 1, 0} : new int[] {6, 7, 8, 9});
+            due("30 all out", t.arrive(1), 4);
+        }
     }
 
     private static void bestNoWayAtAll() {
-        refused(items(new Story(), 5), "30 no hold", -5, "best", 0);
-        refused(items(at(), 5), "30 no slot", -5, "best", 0);
-        refused(items(at(1), 5, 6).then("load", 0, 0, 0), "30 no free slot", -5, "best", 0);
-        refused(items(at(1, 2, 3), 5, 6, 7, 8), "30 four items, three slots", -5, "best", 0);
+        changesNothing(items(new Story(), 5), "30 no hold", -5, "best", 0);
+        changesNothing(items(at(), 5), "30 no slot", -5, "best", 0);
+        changesNothing(items(at(1), 5, 6).then("load", 0, 0, 0), "30 no free slot", -5, "best", 0);
+        changesNothing(items(at(1, 2, 3), 5, 6, 7, 8), "30 four items, three slots", -5, "best", 0);
         due("30 three items, three slots", items(at(1, 2, 3), 5, 6, 7).told().best(0), 0);
         Story heavy = new Story().then("hold", 10, 20).then("slot", 0, 1, 10).then("slot", 0, 2, 10);
         due("30 just the hold's most", items(heavy, 5, 5).told().best(0), 0);
-        refused(items(heavy, 1), "30 three for two slots", -5, "best", 0);
+        changesNothing(items(heavy, 1), "30 three for two slots", -5, "best", 0);
         Story most = new Story().then("hold", 10, 20).then("slot", 0, 1, 10).then("slot", 0, 2, 10);
-        refused(items(most, 5, 6), "30 one above the hold's most", -5, "best", 0);
+        changesNothing(items(most, 5, 6), "30 one above the hold's most", -5, "best", 0);
     }
 
     // ---- 31: "n more, each in turn into the ROW with a free seat ..": n 0 .. 80
@@ -449,11 +524,11 @@ public final class RulesBoundsTest {
     private static void lateNoneAndAll() {
         Story told = new Story();
         due("31 no row, none", told.told().late(0, 0), 0);
-        refused(told, "31 no row", 0, "late", 80, 0);
+        changesNothing(told, "31 no row", 0, "late", 80, 0);
         for (int r = 0; r < 10; r++) {
             told.then("row", 100 * r, 8);
         }
-        refused(told, "31 none comes", 0, "late", 0, 5000);
+        changesNothing(told, "31 none comes", 0, "late", 0, 5000);
         for (int n : new int[] {1, 2, 79, 80}) {
             TrimSheet t = told.told();
             due("31 " + n + " come", t.late(n, 5000), n);
@@ -461,13 +536,13 @@ public final class RulesBoundsTest {
             due("31 weight", t.weight(0), 1000 + 80 * n);
         }
         for (int bad : new int[] {LEAST, -1, 81, GREATEST}) {
-            refused(told, "31 n", TrimSheet.BAD, "late", bad, 0);
+            changesNothing(told, "31 n", TrimSheet.BAD, "late", bad, 0);
         }
         told.then("late", 79, 0);
         due("31 two come, one seat is free", told.told().late(2, 0), 1);
         told.then("late", 1, 0);
-        refused(told, "31 no seat is free", 0, "late", 1, 0);
-        refused(told, "31 no seat is free", 0, "late", 80, 0);
+        changesNothing(told, "31 no seat is free", 0, "late", 1, 0);
+        changesNothing(told, "31 no seat is free", 0, "late", 80, 0);
     }
 
     /** "of several the least" */
@@ -507,11 +582,11 @@ public final class RulesBoundsTest {
     private static void armsOfTheRules() {
         Story told = items(at(900, 1000), 10, 20).then("load", 0, 0, 0).then("row", 1, 1);
         for (int arm : BAD_ARMS) {
-            refused(told, "28", TrimSheet.BAD, "loadAll", arm);
-            refused(told, "29", TrimSheet.BAD, "better", arm);
-            refused(told, "30", TrimSheet.BAD, "best", arm);
-            refused(told, "31", TrimSheet.BAD, "late", 0, arm);
-            refused(told, "31", TrimSheet.BAD, "late", 1, arm);
+            changesNothing(told, "28", TrimSheet.BAD, "loadAll", arm);
+            changesNothing(told, "29", TrimSheet.BAD, "better", arm);
+            changesNothing(told, "30", TrimSheet.BAD, "best", arm);
+            changesNothing(told, "31", TrimSheet.BAD, "late", 0, arm);
+            changesNothing(told, "31", TrimSheet.BAD, "late", 1, arm);
         }
         for (int arm : new int[] {0, 1, 4999, 5000}) {
             due("28 to " + arm, told.told().loadAll(arm), 1);
@@ -539,12 +614,12 @@ public final class RulesBoundsTest {
         int[] empty = {0, 0, 0, 0, 0, 0, 0, 80};
         int[] full = {4, 32, 40, 32, 10, 80, 4, 150};
         for (int what = 0; what < 8; what++) {
-            refused(new Story(), "32 empty", empty[what], "count", what);
-            refused(told, "32 full", full[what], "count", what);
+            changesNothing(new Story(), "32 empty", empty[what], "count", what);
+            changesNothing(told, "32 full", full[what], "count", what);
         }
         for (int none : new int[] {LEAST, -1, 8, GREATEST}) {
-            refused(new Story(), "32 empty", TrimSheet.NONE, "count", none);
-            refused(told, "32 full", TrimSheet.NONE, "count", none);
+            changesNothing(new Story(), "32 empty", TrimSheet.NONE, "count", none);
+            changesNothing(told, "32 full", TrimSheet.NONE, "count", none);
         }
     }
 }

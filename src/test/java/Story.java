@@ -34,11 +34,8 @@ final class Story {
         checks.holds("a story leaves calls for looks", calls.size() < 180);
     }
 
-    /**
-     * What a call answers behind the story; and behind it, whatever it answers but a good end, all
-     * must look as if it had not been made.
-     */
-    void refused(Checks checks, String why, long want, String name, int... numbers) {
+    /** A call behind the story answers as it is due, and all looks then as if it had not been made. */
+    void changesNothing(Checks checks, String why, long want, String name, int... numbers) {
         String told = why + ": " + Calls.told(name, numbers);
         checks.due(told, Calls.call(told(), name, numbers), want);
         if (seen == null) {
