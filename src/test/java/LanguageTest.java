@@ -84,7 +84,8 @@ public final class LanguageTest {
         String code = text.replaceAll("(?s)/\\*.*?\\*/", "").replaceAll("//[^\n]*", "");
         for (String word : List.of("throw", "throws", "try", "catch", "synchronized", "assert", "double", "float",
                 "System", "Random", "Thread", "package", "Object", "equals", "hashCode", "toString")) {
-            CHECKS.holds("rules 4, 6, 13: without " + word, !Pattern.compile("\\b" + word + "\\b").matcher(code).find());
+            boolean isThere = Pattern.compile("\\b" + word + "\\b").matcher(code).find();
+            CHECKS.holds("rules 4, 6, 13: without " + word, !isThere);
         }
         CHECKS.holds("rule 2: no lambda", !code.contains("->") && !code.contains("::"));
         CHECKS.holds("rule 10: no text joined", !code.contains("\""));

@@ -150,7 +150,7 @@ public final class ModelTest {
 
     private void callOne() {
         switch (below(16)) {
-            case 0 -> callApartOrItem();
+            case 0 -> callMore();
             case 1, 2, 3 -> callLoad();
             case 4 -> callUnload();
             case 5 -> callBalance();
@@ -176,11 +176,48 @@ public final class ModelTest {
         return below(2) == 0 ? 100 * from(15, 25) : from(0, 5000);
     }
 
-    private void callApartOrItem() {
-        if (below(2) == 0) {
-            tellApart();
-        } else {
-            addItem();
+    private void callMore() {
+        switch (below(8)) {
+            case 0 -> callSlot();
+            case 1 -> callWipe();
+            case 2 -> callMoreOfTheRest();
+            case 3, 4 -> tellApart();
+            default -> addItem();
+        }
+    }
+
+    private void callSlot() {
+        if (!model.holds.isEmpty()) {
+            int h = below(model.holds.size());
+            PlainModel.Hold hold = model.holds.get(h);
+            int slots = hold.slots.size();
+            int arm = (slots == 0 ? 1000 : hold.slots.get(slots - 1)[0]) + from(0, 100);
+            boolean isAbove = slots == 0 || arm > hold.slots.get(slots - 1)[0];
+            int want = !isAbove || arm > 5000 ? -2 : slots == 8 ? -4 : slots;
+            due("slot(" + h + ", " + arm + ", 200)", sheet.slot(h, arm, 200), want);
+            if (want >= 0) {
+                hold.slots.add(new int[] {arm, 200});
+            }
+        }
+    }
+
+    private void callWipe() {
+        int phase = below(2);
+        due("wipe(" + phase + ")", sheet.wipe(phase), model.phases.get(phase).size());
+        model.phases.get(phase).clear();
+        addPoints(phase);
+    }
+
+    private void callMoreOfTheRest() {
+        setEmpty(from(1000, 3000), from(1500, 2500));
+        if (model.holds.size() < 4) {
+            addHold(from(0, 3));
+        }
+        if (model.rows.size() < 10) {
+            addRow();
+        }
+        if (model.tanks.size() < 4) {
+            addTank(600);
         }
     }
 
