@@ -269,26 +269,36 @@ public final class BalanceBoundsTest {
         int[][][] lines = {{{1000, 2000, 2001}, {1100, 2003, 2004}}, {{1000, 2003, 2004}, {1100, 2000, 2001}},
             {{1000, 2000, 2004}, {1100, 2001, 2001}}, {{1000, 2002, 2002}, {1100, 2002, 2002}}};
         for (int[][] line : lines) {
-            TrimSheet t = new TrimSheet();
-            t.hold(1, 20000);
-            for (int s = 0; s < 8; s++) {
-                t.slot(0, 1000 + 300 * s, 1);
-            }
-            t.item(1, 0, 1);
-            t.point(0, line[0][0], line[0][1], line[0][2]);
-            t.point(0, line[1][0], line[1][1], line[1][2]);
-            for (int n = 0; n < 99 * 5; n++) {
-                int weight = 1000 + n % 99;
-                int arm = 2000 + n / 99;
-                t.empty(weight, arm);
-                int slot = n * 5 % 8;
-                t.load(0, 0, slot);
-                long moment = (long) weight * arm + 1000 + 300 * slot;
-                due(Calls.told("23 along a line", weight, arm, slot), t.within(0),
-                        want(weight + 1, moment, line[0], line[1]));
-                t.unload(0);
+            for (int arm = 2000; arm < 2005; arm++) {
+                alongALine(line, arm);
             }
         }
+    }
+
+    private static void alongALine(int[][] line, int arm) {
+        TrimSheet t = between(line);
+        t.hold(1, 20000);
+        for (int s = 0; s < 8; s++) {
+            t.slot(0, 1000 + 300 * s, 1);
+        }
+        t.item(1, 0, 1);
+        for (int weight = 1000; weight < 1099; weight++) {
+            int slot = (weight + arm) * 5 % 8;
+            t.empty(weight, arm);
+            t.load(0, 0, slot);
+            long moment = (long) weight * arm + 1000 + 300 * slot;
+            due(Calls.told("23 along a line", weight, arm, slot), t.within(0),
+                    want(weight + 1, moment, line[0], line[1]));
+            t.unload(0);
+        }
+    }
+
+    private static TrimSheet between(int[][] points) {
+        TrimSheet t = new TrimSheet();
+        for (int[] p : points) {
+            t.point(0, p[0], p[1], p[2]);
+        }
+        return t;
     }
 
     /** The longest and steepest lines that there can be, and the heaviest states: the greatest products. */
@@ -296,11 +306,9 @@ public final class BalanceBoundsTest {
         int[][][] lines = {{{1, 0, 0}, {1000000, 5000, 5000}}, {{1, 5000, 5000}, {1000000, 0, 0}},
             {{1, 0, 5000}, {1000000, 0, 5000}}, {{1, 0, 0}, {1000000, 0, 5000}}, {{1, 0, 5000}, {1000000, 5000, 5000}}};
         for (int[][] line : lines) {
-            TrimSheet t = new TrimSheet();
-            t.point(0, line[0][0], line[0][1], line[0][2]);
-            t.point(0, line[1][0], line[1][1], line[1][2]);
             for (int weight : new int[] {1000, 1001, 50000, 99999, 100000}) {
                 for (int arm = 0; arm <= 5000; arm += arm < 600 || arm > 4400 ? 1 : 100) {
+                    TrimSheet t = between(line);
                     t.empty(weight, arm);
                     due(Calls.told("23 widest", weight, arm), t.within(0),
                             want(weight, (long) weight * arm, line[0], line[1]));
@@ -413,30 +421,32 @@ public final class BalanceBoundsTest {
 
     /** The tail tank, then the nose tank: the arm goes to the front till just the turn, and back. */
     private static void flightWrongWhereTanksTurn() {
+        for (int least = 1800; least <= 2001; least++) {
+            TrimSheet t = turning(least);
+            int want = firstInFront(least);
+            due("25 at the turn, least " + least, t.wrong(200), want);
+            due("25 at the turn, least " + least + ", of more", t.wrong(GREATEST), want);
+        }
+        due("25 just at the turn", turning(1819).wrong(200), 100);
+        due("25 just before the turn", turning(1819).wrong(99), TrimSheet.NONE);
+    }
+
+    private static TrimSheet turning(int least) {
         TrimSheet t = new TrimSheet();
         t.empty(1000, 2000);
         t.tank(0, 100);
         t.tank(3000, 100);
         t.fuel(0, 100);
         t.fuel(1, 100);
-        for (int least = 1800; least <= 2001; least++) {
-            t.wipe(1);
-            t.point(1, 1, least, 5000);
-            t.point(1, 1000000, least, 5000);
-            int want = firstInFront(t, least);
-            due("25 at the turn, least " + least, t.wrong(200), want);
-            due("25 at the turn, least " + least + ", of more", t.wrong(GREATEST), want);
-        }
-        t.wipe(1);
-        t.point(1, 1, 1819, 5000);
-        t.point(1, 1000000, 1819, 5000);
-        due("25 just at the turn", t.wrong(200), 100);
-        due("25 just before the turn", t.wrong(99), TrimSheet.NONE);
+        t.point(1, 1, least, 5000);
+        t.point(1, 1000000, least, 5000);
+        return t;
     }
 
-    private static int firstInFront(TrimSheet t, int least) {
-        for (int b = 0; b <= t.weight(2); b++) {
-            if (t.burnt(b, 0) < least * t.burnt(b, 1)) {
+    private static int firstInFront(int least) {
+        for (int b = 0; b <= 200; b++) {
+            int moment = 1000 * 2000 + 3000 * Math.max(0, 100 - b);
+            if (moment < least * (1200 - b)) {
                 return b;
             }
         }

@@ -38,6 +38,8 @@ public final class LanguageTest {
         Set<String> methods = new TreeSet<>();
         for (Method m : TrimSheet.class.getDeclaredMethods()) {
             if (!Modifier.isPrivate(m.getModifiers())) {
+                CHECKS.holds("the face: public, of an object " + m,
+                        Modifier.isPublic(m.getModifiers()) && !Modifier.isStatic(m.getModifiers()));
                 StringBuilder told = new StringBuilder(m.getReturnType() + " " + m.getName() + "(");
                 for (Class<?> type : m.getParameterTypes()) {
                     told.append(told.charAt(told.length() - 1) == '(' ? "" : ",").append(type);
@@ -49,11 +51,16 @@ public final class LanguageTest {
         Set<String> fields = new TreeSet<>();
         for (Field f : TrimSheet.class.getDeclaredFields()) {
             if (!Modifier.isPrivate(f.getModifiers())) {
+                CHECKS.due("the face: public, static and final " + f, f.getModifiers(),
+                        Modifier.PUBLIC | Modifier.STATIC | Modifier.FINAL);
                 fields.add(f.getType() + " " + f.getName());
             }
         }
         CHECKS.holds("rule 1: the constants of the face, not " + fields,
                 fields.equals(new TreeSet<>(List.of("int NONE", "int BAD", "int STATE", "int FULL", "long NO"))));
+        long[] constants = {TrimSheet.NONE, TrimSheet.BAD, TrimSheet.STATE, TrimSheet.FULL, TrimSheet.NO};
+        CHECKS.holds("the face: the constants' values, not " + Arrays.toString(constants),
+                Arrays.equals(constants, new long[] {-1, -2, -3, -4, Long.MIN_VALUE}));
         Constructor<?>[] made = TrimSheet.class.getDeclaredConstructors();
         CHECKS.holds("rule 1: one public constructor", made.length == 1 && Modifier.isPublic(made[0].getModifiers())
                 && made[0].getParameterCount() == 0);
@@ -97,6 +104,10 @@ public final class LanguageTest {
         List<String> allowed = List.of("abs", "max", "min", "bitCount", "fill", "MIN_VALUE");
         while (library.find()) {
             CHECKS.holds("rule 4: " + library.group(), allowed.contains(library.group(2)));
+        }
+        for (String line : code.split("\n")) {
+            boolean isMadeOnce = !line.contains("new ") || line.matches("\\s*(private )?final .* = new .*;");
+            CHECKS.holds("rule 12: rows are made with their object: " + line.trim(), isMadeOnce);
         }
         shortMethods(code.split("\n"));
     }

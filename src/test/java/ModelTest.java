@@ -1,19 +1,29 @@
+import java.util.Arrays;
 import java.util.Random;
 
-/** Many runs of calls, by chance but always the same ones, answered by TrimSheet as by PlainModel. */
+/**
+ * Many runs of calls, by chance but always the same ones, answered by TrimSheet as by PlainModel:
+ * 512 calls of each object, as many as it is promised to answer.
+ */
 public final class ModelTest {
     private static final Checks CHECKS = new Checks();
+    private static final int CALLS = 512;
+    /** No step below makes more calls at once. */
+    private static final int CALLS_OF_A_STEP = 60;
 
     private final Random random;
     private final TrimSheet sheet = new TrimSheet();
     private final PlainModel model = new PlainModel();
     private final int run;
     private final StringBuilder calls = new StringBuilder();
+    private final int[] seenPlace = new int[40];
     private boolean isWrong = false;
+    private int made = 0;
 
     private ModelTest(int run) {
         this.run = run;
         this.random = new Random(7919L * run + 17);
+        Arrays.fill(seenPlace, -1);
     }
 
     public static void main(String[] args) {
@@ -21,8 +31,11 @@ public final class ModelTest {
         for (int run = 0; run < runs; run++) {
             ModelTest test = new ModelTest(run);
             test.build();
-            for (int call = 0; call < 100 && !test.isWrong; call++) {
+            while (test.made <= CALLS - CALLS_OF_A_STEP && !test.isWrong) {
                 test.callOne();
+            }
+            while (test.made < CALLS && !test.isWrong) {
+                test.callRule();
             }
             new ModelTest(run).fly();
         }
@@ -30,6 +43,7 @@ public final class ModelTest {
     }
 
     private void due(String call, long got, long want) {
+        made++;
         calls.append(call).append("; ");
         if (got != want) {
             isWrong = true;
@@ -164,12 +178,34 @@ public final class ModelTest {
             default -> callLate();
         }
         for (int i = 0; i < model.items.size() && !isWrong; i++) {
-            PlainModel.Item item = model.items.get(i);
-            int place = item.hold < 0 ? -1 : 8 * item.hold + item.slot;
-            if (sheet.where(i) != place) {
-                due("where(" + i + ")", sheet.where(i), place);
+            // Those that lie where they lay are looked at now and then, so that calls are left for other things.
+            if (place(i) != seenPlace[i] || below(20) == 0) {
+                due("where(" + i + ")", sheet.where(i), place(i));
+                seenPlace[i] = place(i);
             }
         }
+    }
+
+    private int place(int i) {
+        PlainModel.Item item = model.items.get(i);
+        return item.hold < 0 ? -1 : 8 * item.hold + item.slot;
+    }
+
+    /** One call alone, so that the last one that an object is promised to answer is just reached. */
+    private void callRule() {
+        switch (below(8)) {
+            case 0 -> callUnload();
+            case 1 -> due("loadAll", sheet.loadAll(2000), model.loadAll(2000));
+            case 2 -> callBetter();
+            case 3 -> callBest();
+            case 4 -> due("moment(0)", sheet.moment(0), model.dry()[1]);
+            default -> callWhere();
+        }
+    }
+
+    private void callWhere() {
+        int i = below(model.items.size() + 1);
+        due("where(" + i + ")", sheet.where(i), i < model.items.size() ? place(i) : -1);
     }
 
     private int arm() {

@@ -41,9 +41,17 @@ final class Story {
         if (seen == null) {
             seen = lookBehind(null);
         }
-        List<List<Long>> then = lookBehind(new Call(name, numbers));
+        compare(checks, told + " changes nothing", lookBehind(new Call(name, numbers)), seen);
+    }
+
+    /** All looks behind this story as it does behind another one. */
+    void looksLike(Checks checks, String why, Story other) {
+        compare(checks, why, lookBehind(null), other.lookBehind(null));
+    }
+
+    private static void compare(Checks checks, String why, List<List<Long>> one, List<List<Long>> other) {
         for (int look = 0; look < Look.LOOKS; look++) {
-            checks.holds(told + " changes nothing, look " + look, then.get(look).equals(seen.get(look)));
+            checks.holds(why + ", look " + look, one.get(look).equals(other.get(look)));
         }
     }
 
